@@ -1780,7 +1780,9 @@ public final class OrderAlgebra {
             if (ways.length < end) {
                 ways = new long[end];
             }
-            Arrays.fill(ways, 0L);
+            for (int taken = 1; taken < end; taken++) {
+                ways[taken] = 0;
+            }
             ways[0] = 1;
             for (int taken = 0; taken < end; taken++) {
                 for (int i = 0; i < many && ways[taken] != 0; i++) {

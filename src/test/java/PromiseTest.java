@@ -368,7 +368,11 @@ public final class PromiseTest {
         due(NONE, x.reckon(0, 0, 0, -1));
         due(7, x.count(8));
         due(1, x.value(1, 0, 2));
-        x = of("divisors 2");
+        tell(x, "divisors 2");
+        due(1, x.reckon(2, 0, 1, 2));
+        due(1, x.same(2, 3));
+        due(1, x.reckon(2, 0, 1, 0));
+        due(1, x.same(2, 3));
         x.make(0, 3);
         x.put(1, 0, 1, 5);
         x.put(1, 0, 0, 2);
@@ -451,6 +455,11 @@ public final class PromiseTest {
         due(5, x.value(1, 0, 1));
         due(7, x.value(1, 1, 2));
         due(24, x.value(1, 0, 2));
+        tell(x, "chain 2");
+        x.make(0, 2);
+        due(1, x.invert(1, 0));
+        x.make(0, 3);
+        due(1, x.same(0, 1));
         x = of("chain 4");
         x.make(0, 2);
         x.put(0, 0, 1, Integer.MAX_VALUE);
@@ -460,6 +469,8 @@ public final class PromiseTest {
         due(-3, x.invert(1, 0));
         due(acts, x.count(8));
         due(0, x.value(1, 0, 0));
+        x.make(0, 2);
+        due(1, x.invert(1, 0));
     }
 
     private static void raise() {
@@ -493,6 +504,8 @@ public final class PromiseTest {
         due(3, x.count(8));
         x.put(0, 0, 0, -8);
         due(1, x.raise(0, 0, 19));
+        due(-3, x.raise(1, 0, 2));
+        due(1, x.raise(1, 0, 1));
         due(-(1L << 57), x.value(0, 0, 0));
     }
 
@@ -845,6 +858,36 @@ public final class PromiseTest {
         due(3, x.type(4, 1));
     }
 
+    /** Four low ones between 0 and two tops, each top with four of its own above pairs of these. */
+    private static OrderAlgebra rings(int[][] first, int[][] second) {
+        OrderAlgebra x = of("free 15;0<1;0<2;0<3;0<4;5<13;6<13;7<13;8<13;9<14;10<14;11<14;12<14");
+        for (int i = 0; i < 4; i++) {
+            for (int j = 0; j < 2; j++) {
+                x.relate(first[i][j], 5 + i);
+                x.relate(second[i][j], 9 + i);
+            }
+        }
+        return x;
+    }
+
+    /** Rings of eight and two rings of four differ, though each element has as many above and below it. */
+    private static void typeOfRings() {
+        int[][] ring = {{1, 2}, {2, 3}, {3, 4}, {4, 1}};
+        int[][] otherRing = {{1, 3}, {3, 2}, {2, 4}, {4, 1}};
+        int[][] two = {{1, 2}, {1, 2}, {3, 4}, {3, 4}};
+        int[][] otherTwo = {{1, 4}, {2, 3}, {3, 2}, {4, 1}};
+        int[][][] firsts = {ring, ring, two, two, otherTwo};
+        int[][][] seconds = {otherRing, two, otherTwo, otherRing, two};
+        int[] due = {3, 4, 3, 4, 3};
+        for (int i = 0; i < due.length; i++) {
+            OrderAlgebra x = rings(firsts[i], seconds[i]);
+            due(3, x.type(0, 13));
+            due(due[i], x.type(0, 14));
+            due(due[i] + 1, x.count(6));
+            due(2, x.type(4, 13));
+        }
+    }
+
     private static void split() {
         begin(25);
         OrderAlgebra x = of("cube 3");
@@ -1124,6 +1167,7 @@ public final class PromiseTest {
         multichains();
         sets();
         type();
+        typeOfRings();
         split();
         reduced();
         summed();
