@@ -106,11 +106,7 @@ public final class ModelTest {
 
     private void tellText(String text) {
         for (int at = 0; at < text.length() || at == 0; at += 20) {
-            int[] five = new int[5];
-            for (int i = 0; i < 20; i++) {
-                int sign = at + i < text.length() ? text.charAt(at + i) : 0;
-                five[i / 4] |= sign << 24 - 8 * (i % 4);
-            }
+            int[] five = Texts.five(text, at);
             due(0, "feed", x.feed(five[0], five[1], five[2], five[3], five[4]),
                     m.feed(five[0], five[1], five[2], five[3], five[4]));
         }

@@ -19,20 +19,8 @@ public final class PromiseTest {
         }
     }
 
-    private static void write(OrderAlgebra x, String text) {
-        for (int at = 0; at < text.length(); at += 20) {
-            int[] five = new int[5];
-            for (int i = 0; i < 20; i++) {
-                int sign = at + i < text.length() ? text.charAt(at + i) : 0;
-                five[i / 4] |= sign << 24 - 8 * (i % 4);
-            }
-            x.feed(five[0], five[1], five[2], five[3], five[4]);
-        }
-        x.end(text.length());
-    }
-
     private static int tell(OrderAlgebra x, String text) {
-        write(x, text);
+        Texts.write(x, text);
         return x.tell();
     }
 
@@ -89,7 +77,7 @@ public final class PromiseTest {
         due(0, x.end(0));
         due(NONE, x.end(1));
         due(NONE, x.end(-1));
-        write(x, "chain 12");
+        Texts.write(x, "chain 12");
         due(NONE, x.end(9));
         due(NONE, x.end(Integer.MIN_VALUE));
         due(8, x.count(9));
@@ -1115,7 +1103,7 @@ public final class PromiseTest {
         due(5, x.count(8));
         x.keep(1);
         due(2, x.count(10));
-        write(x, "chain");
+        Texts.write(x, "chain");
         due(5, x.count(9));
         x = of("cube 4");
         due(81 - 16, x.count(1));

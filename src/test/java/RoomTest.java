@@ -13,19 +13,6 @@ public final class RoomTest {
         return bean.getThreadAllocatedBytes(Thread.currentThread().getId());
     }
 
-    private static void tell(OrderAlgebra x, String text) {
-        for (int at = 0; at < text.length(); at += 20) {
-            int[] five = new int[5];
-            for (int i = 0; i < 20; i++) {
-                int sign = at + i < text.length() ? text.charAt(at + i) : 0;
-                five[i / 4] |= sign << 24 - 8 * (i % 4);
-            }
-            x.feed(five[0], five[1], five[2], five[3], five[4]);
-        }
-        x.end(text.length());
-        x.tell();
-    }
-
     private static void dearCall(OrderAlgebra x, int kind, int i) {
         int a = i % 16;
         int b = 15 - i / 16 % 16;
@@ -45,7 +32,8 @@ public final class RoomTest {
     private static void run(String text, int kind) {
         long before = made();
         OrderAlgebra x = new OrderAlgebra();
-        tell(x, text);
+        Texts.write(x, text);
+        x.tell();
         for (int i = 0; i < 512; i++) {
             dearCall(x, kind, i);
         }
