@@ -1233,9 +1233,6 @@ public final class OrderAlgebra {
             if (two == -1) {
                 return one == Long.MIN_VALUE;
             }
-            if (one == -1) {
-                return two == Long.MIN_VALUE;
-            }
             return one * two / two != one;
         }
     }

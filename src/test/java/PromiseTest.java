@@ -448,6 +448,11 @@ public final class PromiseTest {
         due(1, x.invert(1, 0));
         x.make(0, 3);
         due(1, x.same(0, 1));
+        tell(x, "free 2");
+        x.put(0, 0, 0, 1);
+        x.put(0, 1, 1, 1);
+        due(1, x.invert(1, 0));
+        due(1, x.same(0, 1));
         x = of("chain 4");
         x.make(0, 2);
         x.put(0, 0, 1, Integer.MAX_VALUE);
