@@ -424,7 +424,7 @@ public final class OrderAlgebra {
             case 1:
                 return setCounts.extensions();
             case 2:
-                return setCounts.downSetsOf(n);
+                return n >= 0 && n <= order.size ? setCounts.downSetsOf(n) : NONE;
             default:
                 return NONE;
         }
@@ -526,10 +526,11 @@ public final class OrderAlgebra {
 
     public long coefficient(int i) {
         int least = order.least(order.all());
-        if (i < 0 || least < 0 || !order.isGraded()) {
+        int greatest = order.greatestHeight();
+        if (i < 0 || i > greatest || least < 0 || !order.isGraded()) {
             return NO_VALUE;
         }
-        int height = order.greatestHeight() - i;
+        int height = greatest - i;
         order.moebiusFrom(least, moebiusRow);
         long total = 0;
         for (int x = 0; x < order.size; x++) {

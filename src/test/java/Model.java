@@ -700,7 +700,7 @@ final class Model {
         if (what == 1) {
             return order.extensions();
         }
-        if (what != 0 && what != 2) {
+        if (what != 0 && what != 2 || what == 2 && (n < 0 || n > order.n)) {
             return -1;
         }
         long total = 0;
@@ -872,10 +872,14 @@ final class Model {
             return NO;
         }
         long total = 0;
+        boolean some = false;
         for (int x = 0; x < order.n; x++) {
-            total += (long) order.height(x) == (long) count(3) - i ? order.mu(z, x) : 0;
+            if ((long) order.height(x) == (long) count(3) - i) {
+                some = true;
+                total += order.mu(z, x);
+            }
         }
-        return total;
+        return some ? total : NO;
     }
 
     int count(int what) {

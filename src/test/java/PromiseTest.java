@@ -798,8 +798,12 @@ public final class PromiseTest {
         due(3, x.sets(2, 2));
         due(4, x.sets(2, 4));
         due(1, x.sets(2, 8));
-        due(0, x.sets(2, 9));
-        due(0, x.sets(2, -1));
+        due(NONE, x.sets(2, 9));
+        due(NONE, x.sets(2, 16));
+        due(NONE, x.sets(2, 17));
+        due(NONE, x.sets(2, -1));
+        due(NONE, x.sets(2, Integer.MAX_VALUE));
+        due(NONE, x.sets(2, Integer.MIN_VALUE));
         due(NONE, x.sets(3, 0));
         due(NONE, x.sets(-1, 0));
         tell(x, "cube 4");
@@ -809,6 +813,8 @@ public final class PromiseTest {
         due(65536, x.sets(0, 0));
         due(20922789888000L, x.sets(1, 0));
         due(12870, x.sets(2, 8));
+        due(1, x.sets(2, 16));
+        due(NONE, x.sets(2, 17));
         tell(x, "chain 16");
         due(17, x.sets(0, 0));
         due(1, x.sets(1, 0));
@@ -819,6 +825,12 @@ public final class PromiseTest {
         due(17, x.sets(0, 0));
         x.form(2, 7, 0);
         due(4, x.sets(0, 0));
+        due(1, x.sets(2, 3));
+        due(NONE, x.sets(2, 4));
+        x = new OrderAlgebra();
+        due(1, x.sets(2, 0));
+        due(1, x.sets(2, 1));
+        due(NONE, x.sets(2, 2));
     }
 
     private static void type() {
@@ -1075,8 +1087,8 @@ public final class PromiseTest {
         due(11, x.coefficient(1));
         due(-6, x.coefficient(2));
         due(1, x.coefficient(3));
-        due(0, x.coefficient(4));
-        due(0, x.coefficient(Integer.MAX_VALUE));
+        due(NO, x.coefficient(4));
+        due(NO, x.coefficient(Integer.MAX_VALUE));
         due(NO, x.coefficient(-1));
         due(NO, x.coefficient(Integer.MIN_VALUE));
         tell(x, "free 2");
@@ -1089,6 +1101,11 @@ public final class PromiseTest {
         tell(x, "free 4;0<1<2;0<3");
         due(0, x.coefficient(0));
         due(-2, x.coefficient(1));
+        due(1, x.coefficient(2));
+        due(NO, x.coefficient(3));
+        x = new OrderAlgebra();
+        due(1, x.coefficient(0));
+        due(NO, x.coefficient(1));
     }
 
     private static void count() {
