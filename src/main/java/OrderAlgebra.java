@@ -433,10 +433,12 @@ public final class OrderAlgebra {
     // ---- intervals that are alike ----
 
     public int type(int a, int b) {
+        likeness.learn();
         return order.atMost(a, b) ? likeness.typeOf(a, b) : NONE;
     }
 
     public int split(int t, int r, int s) {
+        likeness.learn();
         if (!likeness.hasType(t) || !likeness.hasType(r) || !likeness.hasType(s)) {
             return NONE;
         }
@@ -444,12 +446,14 @@ public final class OrderAlgebra {
     }
 
     public long reduced(int function, int t) {
+        likeness.learn();
         if (!isFunction(function) || !likeness.hasType(t) || !isReduced(function)) {
             return NO_VALUE;
         }
         return functions.at(function, likeness.firstLow[t], likeness.firstHigh[t]);
     }
 
+    /** The types must be known. */
     private boolean isReduced(int function) {
         for (int a = 0; a < order.size; a++) {
             for (int b = 0; b < order.size; b++) {
@@ -466,6 +470,7 @@ public final class OrderAlgebra {
     }
 
     private int reducedFunctions() {
+        likeness.learn();
         int bits = 0;
         for (int function = 0; function < MOST_FUNCTIONS; function++) {
             if (isReduced(function)) {
@@ -1472,7 +1477,7 @@ public final class OrderAlgebra {
         }
     }
 
-    /** The types of intervals, found when they are first asked for. */
+    /** The types of intervals. Whoever asks for them calls learn first, so that they are found when first needed. */
     private static final class Likeness {
         final int[] firstLow = new int[MOST_INTERVALS];
         final int[] firstHigh = new int[MOST_INTERVALS];
@@ -1502,13 +1507,11 @@ public final class OrderAlgebra {
         }
 
         boolean hasType(int t) {
-            learn();
             return t >= 0 && t < size;
         }
 
         /** Of an interval that is there. */
         int typeOf(int a, int b) {
-            learn();
             return types[a * MOST_ELEMENTS + b];
         }
 
@@ -1525,7 +1528,7 @@ public final class OrderAlgebra {
             return many;
         }
 
-        private void learn() {
+        void learn() {
             if (known) {
                 return;
             }

@@ -46,7 +46,7 @@ public final class RoomTest {
 
     public static void main(String[] args) {
         String crossed = "free 16;0<8;0<9;1<9;1<10;2<10;2<11;3<11;3<12;4<12;4<13;5<13;5<14;6<14;6<15;7<15";
-        for (String text : new String[] {"free 16", "chain 16", "cube 4", "parts 4", "divisors 840", crossed}) {
+        for (String text : new String[] {"free 16", "chain 16", "cube 4", "parts 4", "divisors 120", crossed}) {
             for (int kind = 0; kind < 9; kind++) {
                 run(text, kind);
             }
