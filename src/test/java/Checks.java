@@ -66,10 +66,16 @@ final class Checks {
         }
     }
 
-    /** A number is refused just below its bounds, just above them, and at the ends of all numbers. */
+    /**
+     * A number is refused just below its bounds, just above them, at the ends of all numbers, and where its lowest 5,
+     * 8, 16 or 31 bits alone would lie within the bounds.
+     */
     void outside(long want, Maker maker, int low, int high, CallWith call) {
-        for (int n : new int[] {low - 1, high + 1, Integer.MIN_VALUE, Integer.MAX_VALUE}) {
-            refused(want, maker, x -> call.on(x, n));
+        for (int n : new int[] {low - 1, high + 1, Integer.MIN_VALUE, Integer.MAX_VALUE, low + 32, high - 32,
+            low + 256, low + 65536, high + Integer.MIN_VALUE}) {
+            if (n < low || n > high) {
+                refused(want, maker, x -> call.on(x, n));
+            }
         }
     }
 

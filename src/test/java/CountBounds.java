@@ -23,6 +23,8 @@ final class CountBounds {
         fences();
         setsRefused();
         types();
+        typesOfRings();
+        manyTypes();
         typesOfOthers();
         typesRefused();
         splits();
@@ -218,6 +220,8 @@ final class CountBounds {
         c.due(1680384, Texts.of("cube 4").sets(1, 0));
         c.due(5, Texts.of("free 4;0<1;2<1;2<3").sets(1, 0));
         c.due(2, Texts.of("cube 2").sets(1, 0));
+        // two of that which has 5, with numbers that go to and fro between them
+        c.due(choose(8, 4) * 5 * 5, Texts.of("free 8;0<7;2<7;2<5;1<6;3<6;3<4").sets(1, 0));
     }
 
     /** Even ones below the odd ones beside them: extensions are the zigzag numbers, down-sets those of Fibonacci. */
@@ -297,6 +301,54 @@ final class CountBounds {
         x.form(0, 0, 0);
         x.form(3, 0, 0);
         c.due(x.type(0, 4), x.type(5, 9));
+    }
+
+    /**
+     * Below each of 13 and 14 lie four, each above two of the same four that lie above 0: these pairs make one ring or
+     * two, though in both each element has as many above and below it.
+     */
+    private void typesOfRings() {
+        c.term("Two INTERVALS are ALIKE, if ELEMENTS of one can be paired with those of the other so that AT MOST"
+                + " holds in one just where it does in the other.");
+        int[][][] pairs = {{{1, 2}, {2, 3}, {3, 4}, {4, 1}}, {{1, 3}, {3, 2}, {2, 4}, {4, 1}},
+            {{1, 2}, {1, 2}, {3, 4}, {3, 4}}, {{1, 4}, {2, 3}, {3, 2}, {4, 1}}};
+        for (int first = 0; first < 4; first++) {
+            for (int second = 0; second < 4; second++) {
+                OrderAlgebra x = Texts.of("free 15;0<1;0<2;0<3;0<4;5<13;6<13;7<13;8<13;9<14;10<14;11<14;12<14");
+                for (int i = 0; i < 4; i++) {
+                    for (int j = 0; j < 2; j++) {
+                        x.relate(pairs[first][i][j], 5 + i);
+                        x.relate(pairs[second][i][j], 9 + i);
+                    }
+                }
+                c.due(3, x.type(0, 13));
+                c.due(first / 2 == second / 2 ? 3 : 4, x.type(0, 14));
+            }
+        }
+    }
+
+    /** An order that was sought out for having many types; the naive model numbers them, too. */
+    private void manyTypes() {
+        c.promise(24, "The TYPE of [a, b];");
+        String text = "free 16;0<2;8<9;2<3;12<13;2<6;0<1;9<11;14<15;13<14;6<9;9<10;3<5;5<8;10<12;1<3;6<7;8<11;7<11"
+                + ";12<15;11<12;1<2;5<6;4<5";
+        OrderAlgebra x = Texts.of(text);
+        Model model = new Model();
+        for (int at = 0; at < text.length(); at += 20) {
+            int[] n = Texts.five(text, at);
+            model.feed(n[0], n[1], n[2], n[3], n[4]);
+        }
+        model.end(text.length());
+        c.due(16, model.tell());
+        c.due(49, model.count(6));
+        c.due(49, x.count(6));
+        for (int a = 0; a < 16; a++) {
+            for (int b = 0; b < 16; b++) {
+                c.due(model.type(a, b), x.type(a, b));
+            }
+        }
+        c.due(0, x.split(0, 48, 48));
+        c.due(NONE, x.split(0, 49, 0));
     }
 
     /** The types of an order that is gone are gone with it. */

@@ -253,7 +253,7 @@ final class FunctionBounds {
         return x;
     }
 
-    /** The whole sum fits each time; on the way, by numbers, it does not always, though it would the other way round. */
+    /** The whole sum fits each time; on the way, by numbers, it does not always, though it would from the last on. */
     private void sumsByNumbers() {
         c.term("Sums go from 0 on, x by numbers, each time the product is reckoned, then added;");
         long[][] fit = {{MOST, -1, 1}, {-1, MOST, 0}, {LEAST, 1, -1}, {MOST, LEAST, MOST}, {-2, 1, MOST - 1}};
@@ -263,7 +263,8 @@ final class FunctionBounds {
             c.due(1, x.reckon(2, 0, 1, TIMES));
             c.due(due[i], x.value(2, 2, 0));
         }
-        long[][] over = {{MOST, 1, -1}, {1, MOST, -1}, {LEAST, -1, 1}, {1L << 62, 1L << 62, LEAST}, {MOST, MOST, LEAST}};
+        long half = 1L << 62;
+        long[][] over = {{MOST, 1, -1}, {1, MOST, -1}, {LEAST, -1, 1}, {half, half, LEAST}, {MOST, MOST, LEAST}};
         for (long[] row : over) {
             c.refused(-3, () -> falling(row), x -> x.reckon(2, 0, 1, TIMES));
         }
