@@ -31,9 +31,10 @@ final class Checks {
         doc = new Doc();
     }
 
-    /** What follows would fail if this sentence of a promise were broken. */
+    /** What follows would fail if this sentence of a promise were broken. Two named at once are held together. */
     void promise(int number, String words) {
-        sentence = (number == 0 ? "terms" : "promise " + number) + ", '" + words + "'";
+        String named = (number == 0 ? "terms" : "promise " + number) + ", '" + words + "'";
+        sentence = check == 0 && !sentence.isEmpty() ? sentence + " and " + named : named;
         check = 0;
         if (!doc.says(number, words)) {
             complain("the document does not say this");
@@ -201,6 +202,9 @@ final class Checks {
 
     /** Whether all went well, and no sentence is left that no test names. */
     boolean end() {
+        if (check == 0) {
+            complain("nothing was checked");
+        }
         for (int part = 0; part <= Doc.PROMISES; part++) {
             String unsaid = doc.unsaid(part);
             if (!unsaid.isEmpty()) {
